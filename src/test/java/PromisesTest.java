@@ -120,6 +120,18 @@ public final class PromisesTest {
         due("two too many", x.feed(257, 0, 0, 0, 0), NONE);
         due("not one of them came", x.count(3), 239);
         due("one", x.feed(0, 0, 0, 0, 1), 240);
+        for (int i = 0; i < 5; i++) {
+            GuiltySleep z = new GuiltySleep();
+            for (int j = 0; j < 11; j++) {
+                z.feed(-1, -1, -1, -1, -1);
+            }
+            z.feed(-1, -1, -1, -1, 1);
+            int[] w = {0, 0, 0, 0, 0};
+            w[i] = 0x01010101;
+            due("four too many as number " + i, z.feed(w[0], w[1], w[2], w[3], w[4]), NONE);
+            w[i] = 0x01010001;
+            due("three as number " + i, z.feed(w[0], w[1], w[2], w[3], w[4]), 240);
+        }
         GuiltySleep y = new GuiltySleep();
         due("order", y.feed(0x70673263, 0x33773474, 0x35000000, 0, 0), 9);
         due("order", y.text(0), 1);
@@ -183,6 +195,7 @@ public final class PromisesTest {
         fault(0, "s;p;s", 4);
         fault(0, "sh3h3;p", 3);
         fault(0, "pg1c2g3", 5);
+        fault(0, "sh3k1h3;p", 5);
         fault(0, "pg1 g1", 4);
         fault(0, "sh0;p", 2);
         fault(0, "sh00;p", 3);
@@ -192,6 +205,7 @@ public final class PromisesTest {
         fault(0, "sk31;p", 3);
         fault(0, "sc10;p", 3);
         fault(0, "pg10", 3);
+        fault(0, "pc10", 3);
         fault(0, "pc99", 3);
         fault(0, "pw10", 3);
         fault(0, "pt10", 3);
@@ -226,7 +240,8 @@ public final class PromisesTest {
         String[] right = {"y:1", "v:1", " y : 1 ", "y:g;v:a", "y:g+c-w*t/h", "y:[g]", "y:[[[[[[g]]]]]]", "y:9999",
             "y:0000", "y:g=1?2", "y:g<1&c>2|w=3?4", "y:!g=1?2", "y:!!!!!!g=1?2", "y:(g=1)?2", "y:((((((g=1))))))?2",
             "y:!(!([g]=1))?2", "y:[g+1]*2>3?4", "y:g=1?2;y:3;v:4", "y:(g=1)&!(c=2)&!(w=3)?[g]*[c]", "y:1;y:2",
-            "y:[g]=[c]?[w]", "y: 12 + 3", "y:!([[[[g]]]]=1)?1"};
+            "y:[g]=[c]?[w]", "y: 12 + 3", "y:!([[[[g]]]]=1)?1",
+            "y:1=[[[[[[g]]]]]]?1", "y:[[[[[[g]]]]]]=1?[[[[[[g]]]]]]", "y:1=1|[[[[[[g]]]]]]=1&!!!!!!g=1?1"};
         for (String text : right) {
             fault(1, text, NONE);
         }
@@ -765,6 +780,8 @@ public final class PromisesTest {
             yearsBy(crimes, 77 + crimes);
             yearsBy(crimes, -5 - crimes);
         }
+        due("one", x.years(1, 1), 1);
+        x.undo();
         due("thirty", x.years(30, 1), 30);
         due("each is one act", x.count(13), 30);
         due("undone", x.undo(), 29);
@@ -994,6 +1011,8 @@ public final class PromisesTest {
         due("two lamps", x.seem(0, 0), 5);
         x = with("sh4k1;p", "v:h=1?0-a;v:1-a", "0000");
         due("three lamps", x.seem(0, 0), 7);
+        x = with("sh3k1;p", "v:h=2?1-9*a;v:1-2*a", "000");
+        due("one late lamp for two early ones", x.seem(0, 0), 4);
         x = with("sh2k1;p", "v:1", "0");
         due("there is none", x.seem(0, 0), NONE);
         // THE BOOK counts, TIRED as now, also for one that is GAOLED
@@ -1084,6 +1103,10 @@ public final class PromisesTest {
         due("nobody", x.who(3, 0), 0);
         due("nobody", x.who(3, 1), 0);
         due("nobody", x.who(3, 2), NONE);
+        due("one alone", Check.town("p").who(1, 1), 1000);
+        due("one alone", Check.town("p").who(1, 2), 0);
+        due("eight alike", with("p;p;p;p;p;p;p;p", "y:9", null).who(1, 2), 0);
+        due("eight alike", with("p;p;p;p;p;p;p;p", "y:9", null).who(1, 1), 125);
         // twelve of ten each
         x = with("sh1;p;p", "y:10", null);
         for (int i = 0; i < 12; i++) {
@@ -1099,6 +1122,8 @@ public final class PromisesTest {
         x = with("sh3;pc1;pc2;pc3", "y:c=2&h=2?9-2*g;y:9", null);
         due("one by one", x.who(3, 2), 12);
         due("x is too little", x.who(2, 2), 0);
+        x = with("sh3;p;p;p", "y:h=3?9-2*g;y:9", null);
+        due("no HOUR behind the last", x.who(3, 2), 0);
         // 0 is below 5 and HOUR 0 at 5 for all: in HOUR 1 one of three is told apart
         x = with("sh2;pc1;pc2;pc3", "y:c=1?4;y:h=0?5;y:5-g", null);
         due("1 and 2", x.who(1, 2), 11);
@@ -1237,10 +1262,20 @@ public final class PromisesTest {
         due("three", x.likeliest(0, 3), 14);
         due("four", x.likeliest(0, 4), 15);
         due("five", x.likeliest(0, 5), NONE);
+        due("nine", x.likeliest(0, 9), NONE);
         due("ten", x.likeliest(0, 10), NONE);
         due("-1", x.likeliest(0, -1), NONE);
         due("no such", x.likeliest(1, 1), NONE);
         due("no such", x.likeliest(-1, 1), NONE);
+        GuiltySleep y = with("sh3;p", "y:h=0?8;y:h=1?4;y:9", null);
+        due("the dark ones count", y.likeliest(0, 1), 4);
+        due("the dark ones count", y.likeliest(0, 2), 5);
+        y = with("sh2;p", "y:h=0?9;y:8", null);
+        // 9 * 2 against 1 * 8
+        due("the dark ones count", y.likeliest(0, 1), 1);
+        y = with("sh9;p", "y:h+1", null);
+        due("nine HOURS", y.likeliest(0, 3), 448);
+        due("nine HOURS", y.likeliest(0, 9), 511);
         x.lamp(0, 2, false);
         due("by lamps", x.likeliest(0, 2), 10);
         x.lamp(0, 0, true);
@@ -1351,9 +1386,9 @@ public final class PromisesTest {
         x.night(1);
         due("points", x.points(0), 10);
         due("tired as now", x.booked(0, 1), 3);
-        x = with("sh9k30;p;pc0w0", "y:0;v:h=8?0-9;v:h=0?1;v:0-9", "111111111");
+        x = with("sh9k29;p;pc0w0", "y:0;v:h=8?0-9;v:h=0?1;v:0-9", "111111111");
         x.night(1);
-        // 1 - 72 + 101 is no less than 30: one too many
+        // it would take 100
         due("points", x.points(1), -71);
         due("not by 99", x.booked(1, 1), NONE);
         due("not by 99", with("sh1;p", "v:0", null).booked(0, 1), NONE);

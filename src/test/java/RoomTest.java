@@ -14,7 +14,7 @@ public final class RoomTest {
     private final int[] n = new int[5];
 
     private RoomTest(int seed) {
-        r = new Random(seed);
+        r = new Random(seed * 0x9E3779B97F4A7C15L);
     }
 
     private void pick() {
