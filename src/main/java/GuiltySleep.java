@@ -20,6 +20,8 @@ public final class GuiltySleep {
     private final State kept;
     private final Acts acts;
     private final Watches watches;
+    private final LawReader reader;
+    private final Law draftLaw;
     private final Mind mind;
     private final Nights nights;
     private final Lamps lamps;
@@ -36,7 +38,9 @@ public final class GuiltySleep {
         kept = new State();
         acts = new Acts();
         watches = new Watches();
-        mind = new Mind(tape, town, state);
+        draftLaw = new Law();
+        reader = new LawReader(tape, draftLaw);
+        mind = new Mind(town, state);
         nights = new Nights(town, state, mind, watches);
         lamps = new Lamps(town, mind);
         rows = new Timetable(town, state, mind);
@@ -69,7 +73,7 @@ public final class GuiltySleep {
             case 0:
                 return draft.read(tape);
             case 1:
-                return mind.faultOfTape();
+                return reader.read(draftLaw);
             case 2:
                 return watches.read(tape);
             default:
@@ -82,7 +86,7 @@ public final class GuiltySleep {
         if (sort == 0) {
             answer = settle();
         } else if (sort == 1) {
-            answer = mind.addLaw();
+            answer = enact();
         } else if (sort == 2) {
             answer = watches.add(tape);
         }
@@ -102,6 +106,13 @@ public final class GuiltySleep {
         lamps.forget();
         hasKept = false;
         return town.crowd();
+    }
+
+    private int enact() {
+        if (!mind.hasRoom() || reader.read(mind.nextLaw()) != NONE) {
+            return NONE;
+        }
+        return mind.addNext();
     }
 
     // ---- what is told of the TOWN, and what holds (promises 6 to 12)
@@ -785,11 +796,10 @@ public final class GuiltySleep {
         }
 
         /** The reading fails at the last digit of the number just read. */
-        boolean failBefore() {
-            if (fault == NONE && at > 0) {
-                fault = at - 1;
+        void failAtDigit() {
+            if (fault == NONE) {
+                fault = Math.max(at - 1, 0);
             }
-            return false;
         }
 
         static boolean isDigit(int sign) {
@@ -946,7 +956,7 @@ public final class GuiltySleep {
             tape.step();
             int value = tape.number(2);
             if (value != NONE && (value < least || value > most)) {
-                tape.failBefore();
+                tape.failAtDigit();
                 return NONE;
             }
             return value;
@@ -970,7 +980,10 @@ public final class GuiltySleep {
         }
     }
 
-    /** A LAW, as signs in the order in which they are reckoned (operands ahead of their sign). */
+    /**
+     * A LAW, as a row in the order in which it is reckoned, operands ahead of their sign: numbers as they
+     * are, letters from FIRST_LETTER on, signs as their bytes below 0.
+     */
     private static final class Law {
         static final int LETTERS = 6;
         static final int FIRST_LETTER = 10000;
@@ -1088,18 +1101,11 @@ public final class GuiltySleep {
         private static final int DEEPEST = 6;
 
         private final Tape tape;
-        private final Law scratch;
         private Law law;
 
-        LawReader(Tape tape) {
+        LawReader(Tape tape, Law law) {
             this.tape = tape;
-            scratch = new Law();
-            law = scratch;
-        }
-
-        /** The FAULT, or NONE; what is read is kept nowhere. */
-        int check() {
-            return read(scratch);
+            this.law = law;
         }
 
         /** The FAULT, or NONE; what is read goes into the LAW. */
@@ -1528,15 +1534,13 @@ public final class GuiltySleep {
         private final Town town;
         private final State state;
         private final Law[] texts = new Law[MOST_TEXTS];
-        private final LawReader reader;
         private final int[] letters = new int[Law.LETTERS];
         private int many;
         private int holding = NONE;
 
-        Mind(Tape tape, Town town, State state) {
+        Mind(Town town, State state) {
             this.town = town;
             this.state = state;
-            reader = new LawReader(tape);
             for (int i = 0; i < MOST_TEXTS; i++) {
                 texts[i] = new Law();
             }
@@ -1562,13 +1566,17 @@ public final class GuiltySleep {
             return true;
         }
 
-        /** The FAULT of the TAPE as a LAW, or NONE. */
-        int faultOfTape() {
-            return reader.check();
+        boolean hasRoom() {
+            return many < MOST_TEXTS;
         }
 
-        int addLaw() {
-            if (many >= MOST_TEXTS || reader.read(texts[many]) != NONE) {
+        /** Where the next LAW is read into; it counts when addNext() says so. */
+        Law nextLaw() {
+            return texts[hasRoom() ? many : MOST_TEXTS - 1];
+        }
+
+        int addNext() {
+            if (!hasRoom()) {
                 return NONE;
             }
             many++;
@@ -1680,7 +1688,11 @@ public final class GuiltySleep {
             }
             for (int hour = 0; hour < town.hours(); hour++) {
                 for (int person = 0; person < town.crowd(); person++) {
-                    passHour(person, hour);
+                    boolean up = draw(10) < mind.wakesNow(person, hour);
+                    awake[person] += up ? 1 : 0;
+                    if (watches.seenAt(hour) == person && state.of(person, State.GAOLED) == 0) {
+                        state.writeBook(hour, person, up || state.of(person, State.FORGED) != 0);
+                    }
                 }
             }
             for (int person = 0; person < town.crowd(); person++) {
@@ -1689,16 +1701,6 @@ public final class GuiltySleep {
                 state.set(person, State.FORGED, 0);
             }
             state.nextNight();
-        }
-
-        private void passHour(int person, int hour) {
-            boolean wakes = draw(10) < mind.wakesNow(person, hour);
-            if (wakes) {
-                awake[person]++;
-            }
-            if (watches.seenAt(hour) == person && state.of(person, State.GAOLED) == 0) {
-                state.writeBook(hour, person, wakes || state.of(person, State.FORGED) != 0);
-            }
         }
     }
 
