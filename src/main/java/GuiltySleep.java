@@ -902,47 +902,32 @@ public final class GuiltySleep {
             if (sign == 's' && !rulesTold) {
                 tape.step();
                 rulesTold = true;
-                return readRules(tape);
+                return readItems(tape, RULE_LETTERS, RULE_LEAST, RULE_MOST, rules, 0);
             }
             if (sign == 'p' && people < MOST_PEOPLE) {
                 tape.step();
+                int from = people * TOLD;
                 people++;
-                return readPerson(tape, (people - 1) * TOLD);
+                System.arraycopy(PERSON_PLAIN, 0, told, from, TOLD);
+                return readItems(tape, PERSON_LETTERS, PERSON_LEAST, PERSON_MOST, told, from);
             }
             return tape.fail();
         }
 
-        private boolean readRules(Tape tape) {
+        /** Reads ITEMS, each letter once at most, into a row from a place on. */
+        private static boolean readItems(Tape tape, String letters, int[] least, int[] most, int[] row, int from) {
             int seen = 0;
-            for (int i = 0; i <= RULES; i++) {
-                int which = letterAt(tape, RULE_LETTERS);
+            for (int i = 0; i < letters.length(); i++) {
+                int which = letterAt(tape, letters);
                 if (which == NONE || (seen >> which & 1) == 1) {
                     return endsClause(tape);
                 }
                 seen |= 1 << which;
-                int value = readItem(tape, RULE_LEAST[which], RULE_MOST[which]);
+                int value = readItem(tape, least[which], most[which]);
                 if (value == NONE) {
                     return false;
                 }
-                rules[which] = value;
-            }
-            return endsClause(tape);
-        }
-
-        private boolean readPerson(Tape tape, int from) {
-            System.arraycopy(PERSON_PLAIN, 0, told, from, TOLD);
-            int seen = 0;
-            for (int i = 0; i <= TOLD; i++) {
-                int which = letterAt(tape, PERSON_LETTERS);
-                if (which == NONE || (seen >> which & 1) == 1) {
-                    return endsClause(tape);
-                }
-                seen |= 1 << which;
-                int value = readItem(tape, PERSON_LEAST[which], PERSON_MOST[which]);
-                if (value == NONE) {
-                    return false;
-                }
-                told[from + which] = value;
+                row[from + which] = value;
             }
             return endsClause(tape);
         }

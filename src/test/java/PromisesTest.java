@@ -482,6 +482,10 @@ public final class PromisesTest {
         wakesBy("!g=2|c=7?6", 6);
         wakesBy("g+c=[w*3]&t+1=2?[g+c]-1", 8);
         wakesBy("0-1<0?4", 4);
+        // as deep as may be, with all that can wait
+        wakesBy("1+1*[1+1*[1+1*[1+1*[1+1*[1+1*[1+1*1]]]]]]", 8);
+        wakesBy("g=9|g=2&(g=9|g=2&(g=9|g=2&(g=9|g=2&(g=9|g=2&(g=9|g=2&1=1+1*0)))))?6", 6);
+        wakesBy("g=9|g=2&1=1+1*[0*1+1*[0*1+1*[0*1+1*[0*1+1*[0*1+1*[1-1]]]]]]?6", 6);
     }
 
     private static void lawClauses() {
@@ -500,6 +504,21 @@ public final class PromisesTest {
         x = with("sh1;pg2c9", "v:50", "0");
         x.night(1);
         due("held at 9", x.points(0), 9);
+        StringBuilder many = new StringBuilder();
+        for (int i = 0; i < 59; i++) {
+            many.append("y:").append(i % 10).append(";");
+        }
+        x = with("sh1;pg2c9", many + "v:2", "0");
+        due("sixty clauses", x.wakes(0, 0), 0);
+        x.night(1);
+        due("the sixtieth", x.points(0), 2);
+        StringBuilder signs = new StringBuilder("y:1");
+        for (int i = 0; i < 237; i++) {
+            signs.append(i % 2 == 0 ? "+" : "0");
+        }
+        fault(1, signs.toString(), 240);
+        x = with("sh1;pg2c9", signs.substring(0, 239), null);
+        due("239 bytes", x.wakes(0, 0), 1);
         x = with("sh1;pg2c9", "y:5;v:g=1?2", "0");
         x.night(1);
         due("no clause of v that holds: 0", x.points(0), 0);
