@@ -504,6 +504,12 @@ public final class PromisesTest {
         x = with("sh1;pg2c9", "v:50", "0");
         x.night(1);
         due("held at 9", x.points(0), 9);
+        // a LAW that was refused leaves nothing in the next one
+        x = Check.town("p");
+        due("refused", Check.text(x, 1, "y:!g=1?2;y:7;v:4x"), NONE);
+        due("taken", Check.text(x, 1, "y:1+2"), 0);
+        x.law(0);
+        due("by the one taken", x.wakes(0, 0), 3);
         StringBuilder many = new StringBuilder();
         for (int i = 0; i < 59; i++) {
             many.append("y:").append(i % 10).append(";");
