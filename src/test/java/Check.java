@@ -72,6 +72,27 @@ final class Check {
         return x;
     }
 
+    /** A TOWN with a LAW and a WATCH that hold (null: without). */
+    static GuiltySleep with(String town, String law, String watch) {
+        GuiltySleep x = town(town);
+        if (law != null) {
+            due("law " + law, text(x, 1, law), 0);
+            due("law holds", x.law(0), true);
+        }
+        if (watch != null) {
+            due("watch " + watch, text(x, 2, watch), 0);
+            due("watch holds", x.watch(0), true);
+        }
+        return x;
+    }
+
+    /** So many NIGHTS. */
+    static void nights(GuiltySleep x, int many) {
+        for (int i = 0; i < many; i++) {
+            x.night(i);
+        }
+    }
+
     /** Ends the test: exit code 1, if something was wrong. */
     static void end(String name) {
         System.out.println(name + ": " + asked + " asked, " + wrong + " wrong");

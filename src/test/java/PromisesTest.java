@@ -75,16 +75,7 @@ public final class PromisesTest {
     }
 
     private static GuiltySleep with(String town, String law, String watch) {
-        GuiltySleep x = Check.town(town);
-        if (law != null) {
-            due("law " + law, Check.text(x, 1, law), 0);
-            due("law holds", x.law(0), true);
-        }
-        if (watch != null) {
-            due("watch " + watch, Check.text(x, 2, watch), 0);
-            due("watch holds", x.watch(0), true);
-        }
-        return x;
+        return Check.with(town, law, watch);
     }
 
     // 1
