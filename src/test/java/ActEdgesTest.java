@@ -35,6 +35,7 @@ public final class ActEdgesTest {
         forgedOnce();
         worries();
         judgedRightOrWrong();
+        judgedAllEight();
         judgedIfInTheBook();
         judgedHoursLeave();
         caseAsItIsNow();
@@ -610,6 +611,31 @@ public final class ActEdgesTest {
                 due("whether gaoled", x.log(0, 1), points);
                 due("case", x.log(0, 2), points);
             }
+        }
+    }
+
+    /** Eight of them: what is counted does not touch what the last one has. */
+    private static void judgedAllEight() {
+        GuiltySleep x = with("sh8k5;pg1;pg1;pg1;p;p;p;p;pg9t9", "y:0;v:c", "01234567");
+        x.night(1);
+        for (int i = 0; i < 8; i++) {
+            due("judged", x.judge(i), 1);
+        }
+        due("right", x.count(7), 4);
+        due("wrong", x.count(8), 4);
+        due("log", x.count(12), 8);
+        due("book", x.count(11), 0);
+        due("night", x.count(6), 1);
+        int[] last = {9, 5, 1, 0, NONE, 0, 0, 1};
+        for (int what = 0; what < 8; what++) {
+            due("the last one's " + what, x.person(7, what), last[what]);
+        }
+        x.undo();
+        due("right", x.count(7), 3);
+        due("wrong", x.count(8), 4);
+        last[7] = 0;
+        for (int what = 0; what < 8; what++) {
+            due("the last one's " + what, x.person(7, what), last[what]);
         }
     }
 

@@ -180,7 +180,7 @@ public final class AskEdgesTest {
         }
         due("none is needed", with("sh9k30;p", null, "000000000").seem(0, 0), 0);
         due("the last alone", with("sh9k5;p", "v:h=8?5-5*a;v:0", "000000000").seem(0, 0), 256);
-        due("one rather than two", with("sh3k3;p", "v:h=2?3-3*a;v:1-a", "000").seem(0, 0), 4);
+        due("one rather than two", with("sh3k3;p", "v:h=2?2-2*a;v:1-a", "000").seem(0, 0), 4);
         due("of two the least", with("sh3k3;p", "v:h>0?2-2*a;v:0", "000").seem(0, 0), 2);
         due("two of three the least", with("sh3k2;p", "v:1-a", "000").seem(0, 0), 3);
         due("lamps that do harm are left out", with("sh3k1;p", "v:h=0?a;v:1-a", "000").seem(0, 0), 6);
@@ -212,6 +212,12 @@ public final class AskEdgesTest {
         Check.text(x, 2, "90");
         due("by another watch", x.seem(0, 1), 2);
         due("the last hour of nine", with("sh9k1;p", "v:1-a", "999999990").seem(0, 0), 256);
+        // no HOUR behind the last, whatever was asked ahead
+        x = with("sh3k1;pc9;p;p;pc1", "y:0;v:c=9?1;v:0-9", "399");
+        Check.text(x, 2, "000");
+        x.night(1);
+        due("3 is the last in line", x.line(), 123);
+        due("there is none", x.seem(0, 1), NONE);
     }
 
     /** "(THE BOOK with these HOURS; .. none goes out of it)" */
@@ -396,6 +402,10 @@ public final class AskEdgesTest {
         x = with("sh1;p;p", "y:g=0?0;y:9", null);
         x.lamp(1, 0, true);
         due("one may be: all are alike by number", x.who(1, 2), 0);
+        x = with("sh1;p;p", "y:g=0?0;y:9", null);
+        x.lamp(0, 0, true);
+        due("the first alone may be", x.who(1, 2), 0);
+        due("the first alone may be", x.who(1, 1), 1000);
         // of three, 0 can't be: asking for 1 splits 1 and 2 evenly, asking for 0 does not
         x = with("sh1;p;p;p", "y:g=0?9;y:0", null);
         due("of three", x.who(1, 2), 0);
@@ -676,6 +686,14 @@ public final class AskEdgesTest {
         due("all hours told", x.candle(0, 5, NONE), 1);
         due("all hours told", x.candle(0, 5, 0), 341);
         due("all hours told", x.candle(0, 4, NONE), 0);
+        // asked of one, then of another one
+        x = with("sh3;pc0;pc1;pc2", "y:c=1?10;y:c=2?0;y:5", null);
+        due("of 0", x.candle(0, 1, NONE), 3);
+        due("1 always wakes", x.candle(1, 3, NONE), 1);
+        due("of 0 again", x.candle(0, 1, NONE), 3);
+        due("2 never wakes", x.candle(2, 0, NONE), 1);
+        due("of 0 again", x.candle(0, 1, NONE), 3);
+        due("of 0 again", x.likeliest(0, 3), 7);
     }
 
     /** "how many (i NONE), the i-th. NONE: no such one, no such PERSON, out of bounds." */
@@ -743,6 +761,11 @@ public final class AskEdgesTest {
             x.judge(i);
             due("out of the book", x.wronged(0), 7 - i);
         }
+        for (int i = 0; i < 8; i++) {
+            x.deed(i, 9);
+        }
+        due("guilty ones that are not in the book", x.wronged(0), 0);
+        due("guilty ones that are not in the book", x.wronged(NONE), 0);
         due("no second law", x.wronged(1), NONE);
         due("-2", x.wronged(-2), NONE);
         due("no town", new GuiltySleep().wronged(NONE), NONE);
@@ -1025,5 +1048,8 @@ public final class AskEdgesTest {
         x.law(0);
         due("gaoled", x.judge(7), 1);
         due("one that is gaoled stays in the line", x.line(), 65432107);
+        x = with("sh8;" + EIGHT_APART, "v:9-c", "01234567");
+        x.night(1);
+        due("the first first", x.line(), 1234567);
     }
 }

@@ -33,6 +33,8 @@ public final class TextEdgesTest {
         divisionCuts();
         divisionByNothing();
         worthWithout();
+        refusedLawLeavesNothing();
+        refusedTextsLeaveNothing();
         oneToNineDigits();
         watchNobody();
         watchByEachByte();
@@ -166,6 +168,15 @@ public final class TextEdgesTest {
             town("s" + letter + "1 " + letter + "1;p", 4);
         }
         town("sh1k1c1k1;p", 7);
+        town("sh1k1h1;p", 5);
+        town("sk1c1k1;p", 5);
+        town("sc1h1c1;p", 5);
+        town("pg1c1g1", 5);
+        town("pc1w1c1", 5);
+        town("pw1t1w1", 5);
+        town("pt1m8t1", 5);
+        town("pm8g1m8", 5);
+        town("pg1c1w1t1g1", 9);
         for (String letter : new String[] {"g", "c", "w", "t", "m"}) {
             town("p" + letter + "8" + letter + "8", 3);
             town("p" + letter + "8;p" + letter + "8", NONE);
@@ -581,6 +592,57 @@ public final class TextEdgesTest {
         x = Check.with("sh1;p", "v:1=2?5;y:9;v:4;v:6", "0");
         x.night(1);
         due("the first v that holds", x.points(0), 4);
+    }
+
+    /** A LAW that is refused leaves nothing in the next one. */
+    private static void refusedLawLeavesNothing() {
+        GuiltySleep x = Check.town("pc9");
+        due("refused", Check.text(x, 1, "v:1;y:9;y:8;y:7x"), NONE);
+        due("taken", Check.text(x, 1, "v:1"), 0);
+        x.law(0);
+        due("no y", x.wakes(0, 0), 0);
+        due("refused", Check.text(x, 1, "y:!1=1?2;y:1=1?7x"), NONE);
+        due("taken", Check.text(x, 1, "y:1+2"), 1);
+        x.law(1);
+        due("1 + 2", x.wakes(0, 0), 3);
+        due("refused", Check.text(x, 1, "y:1=2?9x"), NONE);
+        due("taken", Check.text(x, 1, "y:5"), 2);
+        x.law(2);
+        due("no condition", x.wakes(0, 0), 5);
+        x.law(1);
+        due("the one ahead is as it was", x.wakes(0, 0), 3);
+        due("refused", Check.text(x, 1, "y:1;y:9x"), NONE);
+        due("taken", Check.text(x, 1, "v:1+1+1"), 3);
+        x.law(3);
+        due("no second clause", x.wakes(0, 0), 0);
+        // as long as can be, behind one as long
+        StringBuilder ones = new StringBuilder();
+        for (int i = 0; i < 117; i++) {
+            ones.append("-1");
+        }
+        x = Check.town("pc9");
+        due("refused", Check.text(x, 1, "y:124" + ones + "x"), NONE);
+        due("taken", Check.text(x, 1, "y:124" + ones), 0);
+        x.law(0);
+        due("all of it", x.wakes(0, 0), 7);
+    }
+
+    /** A WATCH or a TOWN that is refused leaves nothing in the next one. */
+    private static void refusedTextsLeaveNothing() {
+        GuiltySleep x = new GuiltySleep();
+        due("refused", Check.text(x, 2, "123456x"), NONE);
+        due("taken", Check.text(x, 2, "0"), 0);
+        due("first", x.watched(0, 0), 0);
+        for (int hour = 1; hour < 9; hour++) {
+            due("not told", x.watched(0, hour), NONE);
+        }
+        due("refused", Check.text(x, 0, "sh9k30c9;pg9c9w9t9m1;pm0;x"), NONE);
+        due("taken", Check.text(x, 0, "s;p;p"), 2);
+        int[] plain = {0, 5, 1, 0, NONE, 0, 0, 0};
+        for (int what = 0; what < 8; what++) {
+            due("person's " + what, x.person(0, what), plain[what]);
+        }
+        due("rules", x.rule(0) * 100 + x.rule(1) * 10 + x.rule(2), 643);
     }
 
     // ---- a WATCH
