@@ -2,12 +2,18 @@ import java.util.Random;
 
 /** FAULTS of very many texts, right and wrong, against the model's. */
 public final class FaultsTest {
+    /** Each takes some 16 calls, and an object is good for 512. */
+    private static final int TEXTS_AN_OBJECT = 30;
+
     public static void main(String[] args) {
         Random r = new Random(11);
         Texts texts = new Texts(r);
         GuiltySleep x = new GuiltySleep();
         int[] right = new int[3];
         for (int i = 0; i < 60000; i++) {
+            if (i % TEXTS_AN_OBJECT == 0) {
+                x = new GuiltySleep();
+            }
             int sort = i % 3;
             String text = sort == 0 ? texts.town(8, 9) : sort == 1 ? texts.law() : texts.watch(8);
             if (text.length() > 240) {

@@ -126,10 +126,6 @@ public final class RefusedTest {
         }
         x.image();
         x.years(9, 1);
-        int[] most = {2, 4, 4, 0, 0, 0, 999, 60, 0, 0, 12, 60, 60, 40};
-        for (int what = 0; what < most.length; what++) {
-            Check.due("full count " + what, x.count(what), most[what]);
-        }
         StringBuilder tape = new StringBuilder("y:1 ");
         for (int i = 0; i < 118; i++) {
             tape.append("+0");
@@ -482,6 +478,10 @@ public final class RefusedTest {
     // ---- full ones
 
     private void full() {
+        int[] most = {2, 4, 4, 240, 0, 0, 999, 60, 0, 0, 12, 60, 60, 40};
+        for (int what = 0; what < most.length; what++) {
+            Check.due("full count " + what, aFullOne().count(what), most[what]);
+        }
         refused("a 241st byte", NONE, x -> x.feed(0, 0, 0, 0, 1));
         refused("twenty more", NONE, x -> x.feed(-1, -1, -1, -1, -1));
         refused("end 241", 0, x -> bit(x.end(241)));

@@ -112,7 +112,7 @@ public final class RoomTest {
         for (int run = 0; run < RUNS; run++) {
             RoomTest test = new RoomTest(run);
             GuiltySleep x = test.ready();
-            for (int i = 0; i < 480; i++) {
+            for (int i = 0; i < 300; i++) {
                 test.pick();
                 int which = test.r.nextInt(44);
                 long seed = test.r.nextLong();
